@@ -447,12 +447,12 @@ public final class SignDesk {
         }
 
         private int takeOther(int from, int to) {
-            int equals = text.find('=', from, to);
+            int equalSign = text.find('=', from, to);
             int semicolon = text.find(';', from, to);
-            int dest = equals < 0 ? 0 : 1 + text.nameAmong(DESTS, from, equals);
+            int dest = equalSign < 0 ? 0 : 1 + text.nameAmong(DESTS, from, equalSign);
             int jump = semicolon < 0 ? 0 : 1 + text.nameAmong(JUMPS, semicolon + 1, to);
-            int comp = compBits(equals < 0 ? from : equals + 1, semicolon < 0 ? to : semicolon);
-            boolean destIsWrong = equals >= 0 && dest == 0;
+            int comp = compBits(equalSign < 0 ? from : equalSign + 1, semicolon < 0 ? to : semicolon);
+            boolean destIsWrong = equalSign >= 0 && dest == 0;
             boolean jumpIsWrong = semicolon >= 0 && jump == 0;
             if (destIsWrong || jumpIsWrong || comp < 0) {
                 return NO_INSTRUCTION;
