@@ -4,15 +4,32 @@ import java.nio.charset.StandardCharsets;
 final class Check {
     private static int wrong = 0;
     private static int asked = 0;
+    private static String sentence = "";
+    private static int askedBefore = 0;
 
     private Check() {
+    }
+
+    /** What is asked from here on is asked for this sentence of the document. */
+    static void sentence(String words) {
+        endSentence();
+        sentence = words;
+        askedBefore = asked;
+    }
+
+    private static void endSentence() {
+        if (!sentence.isEmpty() && asked == askedBefore) {
+            wrong++;
+            System.out.println("nothing was asked for: " + sentence);
+        }
     }
 
     static void due(String call, long got, long want) {
         asked++;
         if (got != want) {
             wrong++;
-            System.out.println(call + " answered " + got + ", due is " + want);
+            System.out.println(call + " answered " + got + ", due is " + want
+                + (sentence.isEmpty() ? "" : " <- " + sentence));
         }
     }
 
@@ -21,6 +38,7 @@ final class Check {
     }
 
     static void end() {
+        endSentence();
         System.out.println(wrong == 0 ? asked + " answers are as due" : wrong + " answers are not as due");
         if (wrong != 0) {
             System.exit(1);
@@ -74,6 +92,13 @@ final class Check {
     static void blankProcessor(String when, SignDesk desk) {
         for (int what : new int[] {0, 1, 2, 4}) {
             due(when + ": register(" + what + ")", desk.register(what), 0);
+        }
+    }
+
+    /** The registers from 0 on are these. */
+    static void registers(String when, SignDesk desk, int... due) {
+        for (int what = 0; what < due.length; what++) {
+            due(when + ": register(" + what + ")", desk.register(what), due[what]);
         }
     }
 

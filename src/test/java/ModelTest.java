@@ -43,7 +43,7 @@ public final class ModelTest {
             int kind = below(20);
             if (kind == 0) {
                 putText(when, text(run % 3 == 0));
-            } else if (kind == 1) {
+            } else if (kind == 1 && calls <= CALLS - 2) {
                 readAndLook(when);
             } else {
                 oneCall(when, kind);
@@ -108,7 +108,7 @@ public final class ModelTest {
             Check.due(when + ": code(" + i + ")", desk.code(i), model.code(i));
             calls++;
         }
-        for (int i = 0; i < 16 && words > 0; i++) {
+        for (int i = 0; i < 16 && words > 0 && calls <= CALLS - 2; i++) {
             int n = below(3) == 0 ? below(2001) : below(5);
             Check.due(when + ": go(" + n + ")", desk.go(n), model.go(n));
             Check.due(when + ": register(" + i % 8 + ")", desk.register(i % 8), model.register(i % 8));

@@ -2,23 +2,23 @@
 public final class RegisterTest {
     public static void main(String[] args) {
         SignDesk desk = Check.desk("@x\nD=-1\n(l)\nA=!A\n@l\n0;JMP\n(never)\n@R3");
-        registers("after read", desk, 0, 0, 0, 6, 0, 3, 0);
+        Check.registers("after read", desk, 0, 0, 0, 6, 0, 3, 0);
         desk.go(3);
-        registers("after three", desk, -17, -1, 3, 6, 3, 3, 0);
+        Check.registers("after three", desk, -17, -1, 3, 6, 3, 3, 0);
         Check.put(desk, "@1\n@y");
         desk.go(2);
-        registers("after five", desk, 2, -1, 2, 6, 5, 3, 5);
+        Check.registers("after five", desk, 2, -1, 2, 6, 5, 3, 5);
         desk.go(2001);
         desk.set(-1, 5);
         desk.put(0, 9);
-        registers("after refused calls", desk, 2, -1, 2, 6, 5, 3, 5);
+        Check.registers("after refused calls", desk, 2, -1, 2, 6, 5, 3, 5);
         desk.read();
-        registers("after another read", desk, 0, 0, 0, 2, 0, 1, 0);
+        Check.registers("after another read", desk, 0, 0, 0, 2, 0, 1, 0);
         desk.go(10);
-        registers("where it stands still", desk, 16, 0, 2, 2, 2, 1, 0);
+        Check.registers("where it stands still", desk, 16, 0, 2, 2, 2, 1, 0);
         Check.put(desk, "@a\n@b\n(R1)");
         desk.read();
-        registers("after a fault", desk, 0, 0, 0, 0, 0, 0, 0);
+        Check.registers("after a fault", desk, 0, 0, 0, 0, 0, 0, 0);
         for (int what : new int[] {-1, 7, 8, 100, Integer.MIN_VALUE, Integer.MAX_VALUE}) {
             Check.due("register(" + what + ")", desk.register(what), 100000);
         }
@@ -26,17 +26,11 @@ public final class RegisterTest {
         Check.end();
     }
 
-    private static void registers(String when, SignDesk desk, int... due) {
-        for (int what = 0; what < due.length; what++) {
-            Check.due(when + ": register(" + what + ")", desk.register(what), due[what]);
-        }
-    }
-
     private static void widest() {
         SignDesk desk = Check.desk("@32767\nAD=A+1\nA=A-1");
         desk.go(2);
-        registers("lowest", desk, -32768, -32768, 2, 3, 2, 0, 0);
+        Check.registers("lowest", desk, -32768, -32768, 2, 3, 2, 0, 0);
         desk.go(1);
-        registers("highest", desk, 32767, -32768, 3, 3, 3, 0, 0);
+        Check.registers("highest", desk, 32767, -32768, 3, 3, 3, 0, 0);
     }
 }
