@@ -1,6 +1,9 @@
 import java.nio.charset.StandardCharsets;
 
-/** Made-up runs of up to 512 calls, the same ones each time, answered by the class and by the model. */
+/**
+ * Made-up runs of up to 512 calls, the same ones each time, answered by the class and by the model;
+ * and every short text over some of the signs, read by both.
+ */
 public final class ModelTest {
     private static final int RUNS = 1500;
     private static final int CALLS = 512;
@@ -31,7 +34,23 @@ public final class ModelTest {
             test.run(run);
         }
         Check.due("more than a third of the runs read something clean", test.clean > RUNS / 3, true);
+        test.shortTexts("@(D=A;M)/ \n1+-!|xR", 4, "");
+        test.shortTexts("@(x)/ \n1", 5, "");
+        test.shortTexts("DAM=+-&1", 5, "");
         Check.end();
+    }
+
+    /** Every text that begins so and has at most so many signs more. */
+    private void shortTexts(String signs, int more, String start) {
+        desk = new SignDesk();
+        model = new Model();
+        calls = 0;
+        putText(start, start);
+        readAndLook(start);
+        Check.due(start + ": register(5)", desk.register(5), model.register(5));
+        for (int i = 0; i < signs.length() && more > 0; i++) {
+            shortTexts(signs, more - 1, start + signs.charAt(i));
+        }
     }
 
     private void run(int run) {
